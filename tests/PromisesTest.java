@@ -36,6 +36,7 @@ public final class PromisesTest {
         crowd();
         cover();
         pieces();
+        nothingStaysOfTheGone();
         Check.close();
     }
 
@@ -184,12 +185,16 @@ public final class PromisesTest {
         Check.due("revived again", set.revived(30, 10), 2);
         set.lock(END);
         Check.due("revived: all locked, all lived: a clash", set.revived(30, 5), 4);
+        LateSet first = new LateSet();
+        first.span(0, 0, 63, 0);
+        Check.due("revived: the first life", first.revived(0, 63), 0);
     }
 
     private static void shifted() {
         LateSet set = some();
         int[][] wrong = {{1000, 0, 1}, {-1, 0, 1}, {30, -1, 1}, {30, 64, 1}, {30, 6, 0}, {30, 6, 64}, {30, 6, -64},
-            {30, 6, Integer.MAX_VALUE}, {30, 6, Integer.MIN_VALUE}, {31, 6, 0}};
+            {30, 6, Integer.MAX_VALUE}, {30, 6, Integer.MIN_VALUE}, {31, 6, 0}, {31, 6, 64},
+            {31, 6, -64}};
         for (int[] w : wrong) {
             Check.due("shifted out of bounds", set.shifted(w[0], w[1], w[2]), 1);
         }
@@ -408,7 +413,7 @@ public final class PromisesTest {
             "5 dies;", "5 dies 3 worth 3;", "5 unborn - 3;", "5 revives by;", "5 shifts 5;",
             "5 shifts 5 by -;", "5 shifts 5 by + 3;", "5 shifts 5 by - - 3;", "5 worth 5;", "5 worth 5 at;",
             "5 worth 5 at 6", "1234 born 5;", "5 born 1000;", "5 born 3; Undo;", "undo;;", "undo\t;",
-            "abcdefgh", "undo; revivess", "undoundo;", "lives where 1 = 1", "5 born 3 worth 1234 ?",
+            "abcdefgh", "undo; revivess", "undoundo;", "undoz;", "aundo;", "lives where 1 = 1", "5 born 3 worth 1234 ?",
             "5 born worth ?", "undo;#", "-5 born 3;", "(undo);", "5 born 3,", "5born3worth5a;", "lock 12345678"};
         int[] places = {0, 0, 4, 5, 5, 6, 7, 5, 4,
             1, 2, 2, 2, 7, 9, 14,
@@ -416,7 +421,7 @@ public final class PromisesTest {
             6, 9, 9, 10, 10,
             15, 14, 16, 9, 12,
             14, 0, 7, 10, 5, 4,
-            0, 6, 0, 0, 15,
+            0, 6, 0, 0, 0, 0, 15,
             7, 5, 0, 0, 8, 12, 5};
         for (int i = 0; i < texts.length; i++) {
             LateSet set = some();
@@ -437,6 +442,9 @@ public final class PromisesTest {
         blanks.setCharAt(0, '5');
         blanks.setCharAt(599, ' ');
         Check.due("text: a fault at the end", Words.text(set, blanks.toString()), -2 - 600);
+        String signs = blanks.toString().replaceAll("[ 5]", ";");
+        Check.due("text: 600 tokens", Words.text(set, signs), -2);
+        Check.due("ask: 600 tokens", Words.ask(set, signs), Words.fault(0, 1));
     }
 
     private static void ran() {
@@ -525,12 +533,22 @@ public final class PromisesTest {
         askIs(set, "hours where sum > 8", 13);
         askIs(set, "hours where least = 20", 64);
         askIs(set, "hours where most = 30", 10);
+        askIs(set, "hours where most = 20", 46);
         askIs(set, "hours where most - least = 20", 8);
         askIs(set, "hours where count + sum + hour = 9", 1);
         LateSet empty = new LateSet();
         askIs(empty, "hours where least = 0 - 1", 64);
         askIs(empty, "hours where most + 1 = 0", 64);
         askIs(empty, "hours where count = 0 and sum = 0", 64);
+        empty.born(0, 60, 5);
+        askIs(empty, "hours where least = 0 and most = 0 and sum = 5", 4);
+        StringBuilder longest = new StringBuilder("run where 1=2");
+        while (longest.length() + 5 <= 600) {
+            longest.append("or1=2");
+        }
+        longest.setLength(longest.length() - 3);
+        longest.append("1=1");
+        askIs(empty, longest.toString(), 64);
     }
 
     private static void askIs(LateSet set, String question, int answer) {
@@ -580,7 +598,9 @@ public final class PromisesTest {
         set.span(105, 0, 64, 0);
         set.span(90, 62, 63, 99);
         set.span(0, 10, 11, 10);
-        String due = "0 from 10 to 11 worth 10 ; 7 from 9 to 10 worth 5 ; 90 from 62 to 63 worth 99 ; 105 from 0 on ; ";
+        set.span(100, 20, 21, 1);
+        String due = "0 from 10 to 11 worth 10 ; 7 from 9 to 10 worth 5 ; 90 from 62 to 63 worth 99 ; "
+            + "100 from 20 to 21 worth 1 ; 105 from 0 on ; ";
         Check.due("report", Words.report(set), due);
         Check.due("report: at its end", set.report(due.length()), ABSENT);
         Check.due("report: beyond", set.report(Integer.MAX_VALUE), ABSENT);
@@ -702,6 +722,11 @@ public final class PromisesTest {
     private static void gap() {
         LateSet set = some();
         Check.due("gap: one lives", set.gap(10), ABSENT);
+        LateSet near = new LateSet();
+        near.born(0, 0, 0);
+        near.born(1, 0, 0);
+        near.born(2, 0, 0);
+        Check.due("gap: all are one apart", near.gap(0), 0);
         Check.due("gap: none lives", new LateSet().gap(10), ABSENT);
         Check.due("gap(5)", set.gap(5), 20);
         Check.due("gap(64)", set.gap(64), NONE);
@@ -800,6 +825,9 @@ public final class PromisesTest {
         Check.due("crowd(1)", set.crowd(1), 2);
         Check.due("crowd(2)", set.crowd(2), 63);
         Check.due("crowd(3)", set.crowd(3), 5);
+        set.born(0, 63, 2);
+        Check.due("crowd: 0 is a number too", set.crowd(3), 7);
+        set.unborn(0, 63);
         set.worthed(5, 3, 1);
         Check.due("crowd: the first such", set.crowd(2), 8);
         Check.due("crowd(3)", set.crowd(3), 5);
@@ -858,5 +886,43 @@ public final class PromisesTest {
         Check.due("onAt beyond", set.onAt(16, Integer.MAX_VALUE), ABSENT);
         set.span(0, 63, 64, 0);
         Check.due("onAt(127, 0)", set.onAt(127, 0), 0);
+    }
+
+    private static void nothingStaysOfTheGone() {
+        LateSet set = new LateSet();
+        set.born(5, 0, 3);
+        set.span(9, 0, 64, 4);
+        set.unborn(9, 0);
+        Check.due("gone: count(0)", set.count(0), 1);
+        Check.due("gone: count(1)", set.count(1), 1);
+        Check.due("gone: count(5)", set.count(5), 1);
+        Check.due("gone: which", set.which(9, 0), ABSENT);
+        Check.due("gone: died", set.died(9, 5), 2);
+        Check.due("gone: alive", set.alive(0), 1);
+        Check.due("gone: next", set.next(6, 0), ABSENT);
+        Check.due("gone: before", set.before(999, 0), 5);
+        Check.due("gone: rank", set.rank(999, 0), 1);
+        Check.due("gone: kth", set.kth(0, 1), ABSENT);
+        Check.due("gone: sum", set.sum(0, 0, 999), 3);
+        Check.due("gone: gap", set.gap(0), ABSENT);
+        Check.due("gone: changes", set.changes(0, 0), 1);
+        Check.due("gone: changes", set.changes(64, 1), 1);
+        Check.due("gone: always", set.always(6, 0, 63), ABSENT);
+        Check.due("gone: ever", set.ever(6, 0, 63), ABSENT);
+        Check.due("gone: both", set.both(9, 9), 0);
+        Check.due("gone: reigns", set.reigns(5, 9), 0);
+        Check.due("gone: crowd", set.crowd(1), 1);
+        Check.due("gone: crowd", set.crowd(3), 3);
+        Check.due("gone: on", set.on(1), 1);
+        Check.due("gone: onAt", set.onAt(1, 1), ABSENT);
+        Check.due("gone: cover", set.cover(9, 0), ABSENT);
+        Check.due("gone: report", Words.report(set), "5 from 0 on worth 3 ; ");
+        Check.noSuchLife(set, 1, 0);
+        askIs(set, "lives where 1 = 1", 1);
+        askIs(set, "hours where most = 9", 0);
+        set.span(4, 0, 9, 0);
+        set.died(4, 9);
+        set.died(4, 0);
+        Check.due("gone: revived", set.revived(4, 9), 2);
     }
 }

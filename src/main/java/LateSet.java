@@ -1020,8 +1020,9 @@ public final class LateSet {
                 return Sign.NO_TOKEN;
             }
             for (int i = 0; i < SIGNS.length; i++) {
-                if (isSpelt(SIGNS[i].word, from, to)) {
-                    return SIGNS[i];
+                Sign sign = SIGNS[i];
+                if (sign != null && isSpelt(sign.word, from, to)) {
+                    return sign;
                 }
             }
             return isLetter(first) ? Sign.OTHER_WORD : Sign.NO_TOKEN;
