@@ -4,8 +4,14 @@ import java.util.NoSuchElementException;
 final class Check {
     private static int right = 0;
     private static int wrong = 0;
+    private static String about = "";
 
     private Check() {
+    }
+
+    /** What the answers from now on are about: it is told of those that are not as due. */
+    static void about(String what) {
+        about = what.isEmpty() ? "" : what + ": ";
     }
 
     static void due(String call, long got, long want) {
@@ -15,7 +21,7 @@ final class Check {
         }
         wrong++;
         if (wrong <= 50) {
-            System.out.println(call + " answered " + got + ", due is " + want);
+            System.out.println(about + call + " answered " + got + ", due is " + want);
         }
     }
 
@@ -42,6 +48,10 @@ final class Check {
 
     static int wrong() {
         return wrong;
+    }
+
+    static int all() {
+        return right + wrong;
     }
 
     static void close() {

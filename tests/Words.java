@@ -34,6 +34,23 @@ final class Words {
         return told.toString();
     }
 
+    /** LIVES as life() tells them: "NUMBER BIRTH-DEATH wWORTH, ..". */
+    static String lives(LateSet set) {
+        StringBuilder told = new StringBuilder();
+        int lives = set.count(0);
+        for (int k = 0; k < lives; k++) {
+            told.append(k == 0 ? "" : ", ").append(set.life(k, 0)).append(' ').append(set.life(k, 1)).append('-')
+                .append(set.life(k, 2)).append(" w").append(set.life(k, 3));
+        }
+        return told.toString();
+    }
+
+    /** All that calls may change. */
+    static String state(LateSet set) {
+        return lives(set) + "; LOCK " + set.count(2) + ", EDITS " + set.count(3) + ", bytes " + set.count(4)
+            + ", ran " + set.ran(0) + ' ' + set.ran(1) + ' ' + set.ran(2) + ' ' + set.ran(3);
+    }
+
     static int four(String words, int from) {
         int four = 0;
         for (int i = from; i < from + 4; i++) {
