@@ -709,6 +709,7 @@ public final class TermsTest {
         due("from to", Words.text(set, "7 from to 5;"), -2 - 7);
         due("to ;", Words.text(set, "7 from 3 to;"), -2 - 11);
         due("worth ;", Words.text(set, "7 from 3 to 5 worth;"), -2 - 19);
+        due("on, as a report has it", Words.text(set, "7 from 3 on ;"), -2 - 9);
         Edges.livesAre(set, "5 0-1 w0, 6 63-64 w99");
     }
 
