@@ -23,6 +23,8 @@ public final class ReadmeTest {
         namesEachCall(readme);
         namesEachTest(readme);
         linesAreRead(readme);
+        fieldsAreRead(readme);
+        tapeIsEmptied(readme);
         Check.close();
     }
 
@@ -94,5 +96,34 @@ public final class ReadmeTest {
             }
         }
         Check.due("LINES that README shows", lines, 10);
+    }
+
+    /** Each FIELD that it names is one of that kind of QUESTION, and of no other. */
+    private static void fieldsAreRead(String readme) {
+        String told = readme.replaceAll("\\s+", " ");
+        String[] kinds = {"lives", "worth", "hours", "run"};
+        Matcher both = Pattern.compile("of lives and worth ((`\\w+`,? ?)+) of hours and run ((`\\w+`,? ?)+)")
+            .matcher(told.replace("`, of hours", "` of hours"));
+        Check.due("README tells of the FIELDS", both.find(), true);
+        String[] fields = (both.group(1) + " " + both.group(3)).replace("`", "").replace(".", "").trim().split("[, ]+");
+        Check.due("FIELDS that README names", fields.length, 11);
+        for (int i = 0; i < fields.length; i++) {
+            for (int kind = 0; kind < kinds.length; kind++) {
+                String question = kinds[kind] + " where " + fields[i] + " = 0";
+                Check.due(question, Words.ask(new LateSet(), question) >= 0, i < 6 == kind < 2);
+            }
+        }
+    }
+
+    private static void tapeIsEmptied(String readme) {
+        Check.due("README tells when the tape stays",
+            readme.contains("Both empty the tape, but for an n below 0 or above what the tape has"), true);
+        for (int n : new int[] {-1, 21}) {
+            LateSet set = new LateSet();
+            set.feed(0, 0, 0, 0, 0);
+            Check.due("text(" + n + ")", set.text(n), LateSet.NONE);
+            Check.due("ask(" + n + ")", set.ask(n), LateSet.NONE);
+            Check.due("bytes behind them", set.count(4), 20);
+        }
     }
 }
